@@ -332,12 +332,14 @@ public final class Sourcewright {
     }
 
     public int compiled() throws UnsupportedOperationException {
+        read();
         build();
         checkCompiled();
         return builder.count();
     }
 
     public int compiledByte(int place) throws UnsupportedOperationException, NoSuchElementException {
+        read();
         build();
         checkCompiled();
         if (place < 0 || place >= builder.count()) {
@@ -389,6 +391,7 @@ public final class Sourcewright {
 
     public boolean agree(int steps) throws IllegalArgumentException, UnsupportedOperationException {
         checkSteps(steps);
+        read();
         build();
         checkCompiled();
         return isAgreed(steps);
@@ -486,21 +489,27 @@ public final class Sourcewright {
 
     private void checkFunction(int function) {
         read();
-        if (function < 0 || function >= reading.count()) {
+        if (!reading.isFunction(function)) {
             throw new IndexOutOfBoundsException("no such function");
         }
     }
 
     private void checkBlock(int function, int block) {
-        checkFunction(function);
+        read();
+        if (!reading.isFunction(function)) {
+            throw new IndexOutOfBoundsException("no such function");
+        }
         study(function);
-        if (block < 0 || block >= division.count()) {
+        if (!division.isBlock(block)) {
             throw new IndexOutOfBoundsException("no such block");
         }
     }
 
     private void checkInstruction(int function, int place) {
-        checkFunction(function);
+        read();
+        if (!reading.isFunction(function)) {
+            throw new IndexOutOfBoundsException("no such function");
+        }
         if (!reading.has(function, place)) {
             throw new NoSuchElementException("no instruction there");
         }
@@ -534,7 +543,7 @@ public final class Sourcewright {
         }
     }
 
-    /** Wants the bytes to be read already, as all that follow. */
+    /** Wants the bytes to be read already, as draw and build do. */
     private void study(int function) {
         if (studied != function) {
             division.divide(function);
@@ -552,7 +561,6 @@ public final class Sourcewright {
     }
 
     private void build() {
-        read();
         if (isBuilt) {
             return;
         }
@@ -608,7 +616,8 @@ public final class Sourcewright {
         }
 
         int span(int place) {
-            return spanOf(op(place));
+            int op = place >= 0 && place < count && place < ops.length ? ops[place] : BEYOND;
+            return op >= 0 && op < SPANS.length ? SPANS[op] : 0;
         }
 
         /** The first register that is named, where two are. */
@@ -664,48 +673,50 @@ public final class Sourcewright {
         private final long[] high = new long[MOST_BYTES + 1];
 
         void clear(int row) {
-            if (isRow(row)) {
+            if (row >= 0 && row < low.length && row < high.length) {
                 low[row] = 0L;
                 high[row] = 0L;
             }
         }
 
         void fill(int row) {
-            if (isRow(row)) {
+            if (row >= 0 && row < low.length && row < high.length) {
                 low[row] = -1L;
                 high[row] = -1L;
             }
         }
 
         void add(int row, int item) {
-            if (isRow(row) && item >= 0 && item < 64) {
+            if (row < 0 || row >= low.length || row >= high.length) {
+                return;
+            }
+            if (item >= 0 && item < 64) {
                 low[row] |= 1L << item;
-            } else if (isRow(row) && item >= 64 && item < 128) {
+            } else if (item >= 64 && item < 128) {
                 high[row] |= 1L << (item - 64);
             }
         }
 
         boolean holds(int row, int item) {
-            if (!isRow(row) || item < 0 || item >= 128) {
+            if (row < 0 || row >= low.length || row >= high.length || item < 0 || item >= 128) {
                 return false;
             }
             return item < 64 ? (low[row] >>> item & 1L) != 0L : (high[row] >>> (item - 64) & 1L) != 0L;
         }
 
-        /** Leaves in the row what the other row holds too, and the item; tells whether the row became smaller. */
-        boolean narrow(int row, int other, int item) {
-            if (!isRow(row) || !isRow(other) || item < 0 || item >= 128) {
+        /** Leaves in the row what the other row holds too, and its own number; tells whether the row became smaller. */
+        boolean narrow(int row, int other) {
+            if (row < 0 || row >= low.length || row >= high.length) {
+                return false;
+            }
+            if (other < 0 || other >= low.length || other >= high.length) {
                 return false;
             }
             long lowBefore = low[row];
             long highBefore = high[row];
-            low[row] &= low[other] | (item < 64 ? 1L << item : 0L);
-            high[row] &= high[other] | (item >= 64 ? 1L << (item - 64) : 0L);
+            low[row] &= low[other] | (row < 64 ? 1L << row : 0L);
+            high[row] &= high[other] | (row >= 64 ? 1L << (row - 64) : 0L);
             return low[row] != lowBefore || high[row] != highBefore;
-        }
-
-        private boolean isRow(int row) {
-            return row >= 0 && row < low.length && row < high.length;
         }
     }
 
@@ -726,6 +737,7 @@ public final class Sourcewright {
         private final int[] entries = new int[MOST_BYTES];
         private final int[] stack = new int[MOST_BYTES];
         private int stackCount = 0;
+        private int length = 0;
         private int count = 0;
 
         Reading(Code code) {
@@ -734,6 +746,10 @@ public final class Sourcewright {
 
         int count() {
             return count;
+        }
+
+        boolean isFunction(int function) {
+            return function >= 0 && function < count;
         }
 
         int entryPlace(int function) {
@@ -745,7 +761,7 @@ public final class Sourcewright {
         }
 
         boolean returnsFrom(int place) {
-            return place >= 0 && place < code.count() && place < returns.length && returns[place];
+            return place >= 0 && place < length && returns[place];
         }
 
         char kindAt(int place) {
@@ -796,6 +812,7 @@ public final class Sourcewright {
         }
 
         void tell(int[] told, int toldCount) {
+            length = Math.min(code.count(), MOST_BYTES);
             findReturns();
             findFunctions(told, toldCount);
             for (int function = 0; function < count; function++) {
@@ -806,18 +823,18 @@ public final class Sourcewright {
         }
 
         private int markAt(int place) {
-            return place >= 0 && place < code.count() && place < marks.length ? marks[place] : 0;
+            return place >= 0 && place < length ? marks[place] : 0;
         }
 
         /** Whether it may return depends on the place alone, so that it can be told before functions are known. */
         private void findReturns() {
-            for (int place = 0; place < returns.length; place++) {
+            for (int place = 0; place < length; place++) {
                 returns[place] = false;
             }
             boolean isChanged = true;
             for (int round = 0; isChanged && round <= MOST_BYTES; round++) {
                 isChanged = false;
-                for (int place = returns.length - 1; place >= 0; place--) {
+                for (int place = length - 1; place >= 0; place--) {
                     if (!returns[place] && leadsToReturn(place)) {
                         returns[place] = true;
                         isChanged = true;
@@ -841,15 +858,19 @@ public final class Sourcewright {
 
         private void findFunctions(int[] told, int toldCount) {
             walked.clear(WHOLE);
-            for (int place = 0; place < isEntry.length; place++) {
+            for (int place = 0; place < length; place++) {
                 isEntry[place] = false;
             }
-            enter(0);
+            if (noteEntry(0)) {
+                walk(WHOLE, 0);
+            }
             for (int i = 0; i < toldCount && i < told.length; i++) {
-                enter(told[i]);
+                if (noteEntry(told[i])) {
+                    walk(WHOLE, told[i]);
+                }
             }
             count = 0;
-            for (int place = 0; place < isEntry.length && count < entries.length; place++) {
+            for (int place = 0; place < length; place++) {
                 if (isEntry[place]) {
                     entries[count] = place;
                     count++;
@@ -857,42 +878,34 @@ public final class Sourcewright {
             }
         }
 
-        private void enter(int place) {
-            if (noteEntry(place)) {
-                walk(WHOLE, place);
-            }
-        }
-
         private boolean noteEntry(int place) {
-            if (place < 0 || place >= isEntry.length || code.op(place) == BEYOND) {
+            if (place < 0 || place >= length || code.op(place) == BEYOND) {
                 return false;
             }
             isEntry[place] = true;
             return true;
         }
 
+        /** A walk through all goes into what is called too, and notes it. */
         private void walk(int row, int start) {
             stackCount = 0;
             reach(row, start);
             for (int turn = 0; turn <= MOST_BYTES && stackCount > 0 && stackCount <= stack.length; turn++) {
                 stackCount--;
-                leave(row, stack[stackCount]);
-            }
-        }
-
-        private void leave(int row, int place) {
-            int many = wayCount(place);
-            for (int i = 0; i < many; i++) {
-                reach(row, way(place, i));
-            }
-            int callee = code.at(place + 1);
-            if (row == WHOLE && code.op(place) == CALL && noteEntry(callee)) {
-                reach(row, callee);
+                int place = stack[stackCount];
+                int many = wayCount(place);
+                for (int i = 0; i < many; i++) {
+                    reach(row, way(place, i));
+                }
+                int callee = code.at(place + 1);
+                if (row == WHOLE && code.op(place) == CALL && noteEntry(callee)) {
+                    reach(row, callee);
+                }
             }
         }
 
         private void reach(int row, int place) {
-            if (place < 0 || walked.holds(row, place) || code.op(place) == BEYOND || stackCount >= stack.length) {
+            if (place < 0 || walked.holds(row, place) || stackCount < 0 || stackCount >= stack.length) {
                 return;
             }
             walked.add(row, place);
@@ -901,10 +914,10 @@ public final class Sourcewright {
         }
 
         private void markBytes() {
-            for (int place = 0; place < marks.length; place++) {
+            for (int place = 0; place < length; place++) {
                 marks[place] = 0;
             }
-            for (int place = 0; place < code.count(); place++) {
+            for (int place = 0; place < length; place++) {
                 if (walked.holds(WHOLE, place)) {
                     markInstruction(place);
                 }
@@ -927,7 +940,7 @@ public final class Sourcewright {
         }
 
         private void mark(int place, int bit) {
-            if (place >= 0 && place < marks.length) {
+            if (place >= 0 && place < length) {
                 marks[place] |= bit;
             }
         }
@@ -943,6 +956,11 @@ public final class Sourcewright {
         private final int[] firsts = new int[MOST_BYTES];
         private final int[] lasts = new int[MOST_BYTES];
         private final int[] many = new int[MOST_BYTES];
+        private final int[] stepCounts = new int[MOST_BYTES];
+        private final int[] goes = new int[MOST_BYTES];
+        private final int[] passes = new int[MOST_BYTES];
+        private final int[] tables = new int[MOST_BYTES];
+        private int length = 0;
         private int count = 0;
         private int entryBlock = 0;
 
@@ -959,46 +977,54 @@ public final class Sourcewright {
             return entryBlock;
         }
 
+        boolean isBlock(int block) {
+            return block >= 0 && block < count;
+        }
+
         int firstPlace(int block) {
-            return isBlock(block) ? firsts[block] : 0;
+            return block >= 0 && block < count ? firsts[block] : 0;
         }
 
         int lastPlace(int block) {
-            return isBlock(block) ? lasts[block] : 0;
+            return block >= 0 && block < count ? lasts[block] : 0;
         }
 
         int instructions(int block) {
-            return isBlock(block) ? many[block] : 0;
+            return block >= 0 && block < count ? many[block] : 0;
         }
 
         int stepCount(int block) {
-            return isBlock(block) ? reading.wayCount(lasts[block]) : 0;
+            return block >= 0 && block < count ? stepCounts[block] : 0;
         }
 
-        /** The block that a step goes to, -1 for none. */
+        /** The block that a step goes to, -1 for none: no block begins where nothing is wholly there. */
         int stepTo(int block, int index) {
-            if (!isBlock(block)) {
+            if (block < 0 || block >= count) {
                 return -1;
             }
-            int place = reading.way(lasts[block], index);
-            return place >= 0 && place < blockAt.length ? blockAt[place] : -1;
+            int place = index == 0 ? goes[block] : passes[block];
+            if (tables[block] >= 0) {
+                place = code.at(tables[block] + index);
+            }
+            return place >= 0 && place < length ? blockAt[place] : -1;
         }
 
         void divide(int function) {
-            for (int place = 0; place < MOST_BYTES; place++) {
+            length = Math.min(code.count(), MOST_BYTES);
+            for (int place = 0; place < length; place++) {
                 isFirst[place] = false;
                 isWalkedTo[place] = false;
                 blockAt[place] = -1;
             }
             int entry = reading.entryPlace(function);
             begin(entry);
-            for (int place = 0; place < code.count(); place++) {
+            for (int place = 0; place < length; place++) {
                 if (reading.has(function, place)) {
                     part(function, place);
                 }
             }
             count = 0;
-            for (int place = 0; place < isFirst.length && count < MOST_BYTES; place++) {
+            for (int place = 0; place < length; place++) {
                 if (isFirst[place]) {
                     blockAt[place] = count;
                     firsts[count] = place;
@@ -1006,19 +1032,15 @@ public final class Sourcewright {
                     count++;
                 }
             }
-            entryBlock = entry >= 0 && entry < blockAt.length ? blockAt[entry] : 0;
-        }
-
-        private boolean isBlock(int block) {
-            return block >= 0 && block < count && block < MOST_BYTES;
+            entryBlock = entry >= 0 && entry < length ? blockAt[entry] : 0;
         }
 
         private boolean begins(int place) {
-            return place >= 0 && place < isFirst.length && isFirst[place];
+            return place >= 0 && place < length && isFirst[place];
         }
 
         private void begin(int place) {
-            if (place >= 0 && place < isFirst.length) {
+            if (place >= 0 && place < length) {
                 isFirst[place] = true;
             }
         }
@@ -1043,7 +1065,7 @@ public final class Sourcewright {
 
         /** A second instruction walking to the place makes it begin a block. */
         private void arrive(int place) {
-            if (place < 0 || place >= isWalkedTo.length) {
+            if (place < 0 || place >= length) {
                 return;
             }
             if (isWalkedTo[place]) {
@@ -1053,6 +1075,9 @@ public final class Sourcewright {
         }
 
         private void extend(int block) {
+            if (block < 0 || block >= MOST_BYTES) {
+                return;
+            }
             int place = firsts[block];
             int sum = 1;
             for (int i = 0; i < MOST_BYTES && reading.wayCount(place) == 1; i++) {
@@ -1065,6 +1090,10 @@ public final class Sourcewright {
             }
             lasts[block] = place;
             many[block] = sum;
+            stepCounts[block] = reading.wayCount(place);
+            goes[block] = stepCounts[block] > 0 ? reading.way(place, 0) : -1;
+            passes[block] = stepCounts[block] > 1 ? reading.way(place, 1) : -1;
+            tables[block] = code.op(place) == TABLE ? code.at(place + 1) : -1;
         }
     }
 
@@ -1073,7 +1102,6 @@ public final class Sourcewright {
         private final Blocks blocks;
         private final Sets ahead = new Sets();
         private final Sets without = new Sets();
-        private final Sets loop = new Sets();
         private final int[] orders = new int[MOST_BYTES];
         private final int[] inOrder = new int[MOST_BYTES];
         private final int[] cursor = new int[MOST_BYTES];
@@ -1082,9 +1110,11 @@ public final class Sourcewright {
         private final int[] arrivals = new int[MOST_BYTES];
         private final int[] loops = new int[MOST_BYTES];
         private final boolean[] isLoopHead = new boolean[MOST_BYTES];
+        private final boolean[] isSeen = new boolean[MOST_BYTES];
         private final int[] firstMeet = new int[MOST_BYTES];
         private final int[] afterMeet = new int[MOST_BYTES];
         private int leapCount = 0;
+        private int count = 0;
 
         Ways(Blocks blocks) {
             this.blocks = blocks;
@@ -1135,13 +1165,14 @@ public final class Sourcewright {
         }
 
         void arrange() {
+            count = Math.min(blocks.count(), MOST_BYTES);
             clear();
             sort();
             findAhead();
             findNearest();
             tellSteps();
-            for (int block = 0; block < MOST_BYTES; block++) {
-                if (heads(block)) {
+            for (int block = 0; block < count; block++) {
+                if (isLoopHead[block]) {
                     countLoop(block);
                 }
             }
@@ -1150,16 +1181,11 @@ public final class Sourcewright {
 
         /** Finds the blocks ahead once more, by leaving each block out, and compares. */
         boolean isNearestProven() {
-            int many = blocks.count();
-            for (int block = 0; block < many; block++) {
+            for (int block = 0; block < count; block++) {
                 walkWithout(block);
             }
-            for (int block = 0; block < many; block++) {
-                int near = nearestTo(block);
-                if (block == blocks.entryBlock()) {
-                    continue;
-                }
-                if (near == block || !isCutBy(block, near) || cutters(near) != cutters(block) - 1) {
+            for (int block = 0; block < count; block++) {
+                if (block != blocks.entryBlock() && !isLastAhead(nearests[block], block)) {
                     return false;
                 }
             }
@@ -1167,12 +1193,12 @@ public final class Sourcewright {
         }
 
         private boolean isBlock(int block) {
-            return block >= 0 && block < blocks.count() && block < MOST_BYTES;
+            return block >= 0 && block < count;
         }
 
         private void clear() {
             leapCount = 0;
-            for (int block = 0; block < MOST_BYTES; block++) {
+            for (int block = 0; block < count; block++) {
                 orders[block] = -1;
                 inOrder[block] = 0;
                 cursor[block] = 0;
@@ -1180,44 +1206,38 @@ public final class Sourcewright {
                 arrivals[block] = 0;
                 loops[block] = 0;
                 isLoopHead[block] = false;
+                isSeen[block] = false;
                 firstMeet[block] = -1;
                 afterMeet[block] = -1;
             }
         }
 
         private void sort() {
-            int start = blocks.entryBlock();
-            if (!isBlock(start)) {
-                return;
-            }
-            int left = blocks.count();
-            int top = 1;
-            stack[0] = start;
-            without.clear(0);
-            without.add(0, start);
-            for (int turn = 0; turn < MANY && top > 0 && top <= stack.length; turn++) {
-                int block = stack[top - 1];
-                int to = unseenStep(block);
-                if (to >= 0 && top < stack.length) {
-                    without.add(0, to);
+            int left = count;
+            int to = blocks.entryBlock();
+            int top = 0;
+            for (int turn = 0; turn < MANY && (top > 0 || turn == 0) && top <= count; turn++) {
+                if (isBlock(to) && top < count) {
+                    isSeen[to] = true;
                     stack[top] = to;
                     top++;
-                } else {
+                } else if (top > 0) {
                     top--;
                     left--;
-                    place(block, left);
+                    place(stack[top], left);
                 }
+                to = top > 0 ? unseenStep(stack[top - 1]) : -1;
             }
         }
 
         private int unseenStep(int block) {
-            if (!isBlock(block)) {
+            if (block < 0 || block >= count) {
                 return -1;
             }
             int many = blocks.stepCount(block);
             for (int i = cursor[block]; i < many; i++) {
                 int to = blocks.stepTo(block, i);
-                if (to >= 0 && !without.holds(0, to)) {
+                if (to >= 0 && to < count && !isSeen[to]) {
                     cursor[block] = i + 1;
                     return to;
                 }
@@ -1235,8 +1255,7 @@ public final class Sourcewright {
 
         /** From all blocks being ahead of all others, each step takes away those that it passes by. */
         private void findAhead() {
-            int many = Math.min(blocks.count(), MOST_BYTES);
-            for (int block = 0; block < many; block++) {
+            for (int block = 0; block < count; block++) {
                 ahead.fill(block);
             }
             ahead.clear(blocks.entryBlock());
@@ -1244,7 +1263,7 @@ public final class Sourcewright {
             boolean isChanged = true;
             for (int round = 0; isChanged && round < MANY; round++) {
                 isChanged = false;
-                for (int i = 0; i < many; i++) {
+                for (int i = 0; i < count; i++) {
                     if (narrowSteps(inOrder[i])) {
                         isChanged = true;
                     }
@@ -1256,29 +1275,29 @@ public final class Sourcewright {
             boolean isChanged = false;
             int many = blocks.stepCount(block);
             for (int i = 0; i < many; i++) {
-                int to = blocks.stepTo(block, i);
-                if (to >= 0 && ahead.narrow(to, block, to)) {
+                if (ahead.narrow(blocks.stepTo(block, i), block)) {
                     isChanged = true;
                 }
             }
             return isChanged;
         }
 
+        /** All that are ahead of a block stand in front of it in the order, the nearest one last. */
         private void findNearest() {
-            int many = Math.min(blocks.count(), MOST_BYTES);
-            for (int order = 1; order < many; order++) {
+            for (int order = 1; order < count; order++) {
                 int block = inOrder[order];
-                for (int i = order - 1; i >= 0; i--) {
-                    if (isBlock(block) && ahead.holds(block, inOrder[i])) {
-                        nearests[block] = inOrder[i];
-                        break;
-                    }
+                int i = order - 1;
+                for (int turn = 0; turn < order && i > 0 && !ahead.holds(block, inOrder[i]); turn++) {
+                    i--;
+                }
+                if (isBlock(block)) {
+                    nearests[block] = inOrder[i];
                 }
             }
         }
 
         private void tellSteps() {
-            for (int block = 0; block < blocks.count(); block++) {
+            for (int block = 0; block < count; block++) {
                 int many = blocks.stepCount(block);
                 for (int i = 0; i < many; i++) {
                     tellStep(block, blocks.stepTo(block, i));
@@ -1300,39 +1319,48 @@ public final class Sourcewright {
         }
 
         private void countLoop(int head) {
-            loop.clear(0);
+            for (int block = 0; block < count; block++) {
+                isSeen[block] = block == head;
+            }
             boolean isChanged = true;
             for (int round = 0; isChanged && round <= MOST_BYTES; round++) {
                 isChanged = false;
-                for (int block = 0; block < blocks.count(); block++) {
-                    if (block != head && !loop.holds(0, block) && staysInLoop(block, head)) {
-                        loop.add(0, block);
+                for (int i = count - 1; i >= 0; i--) {
+                    if (staysInLoop(inOrder[i], head)) {
                         isChanged = true;
                     }
                 }
             }
-            loop.add(0, head);
-            for (int block = 0; block < loops.length; block++) {
-                if (loop.holds(0, block)) {
+            for (int block = 0; block < count; block++) {
+                if (isSeen[block]) {
                     loops[block]++;
                 }
             }
         }
 
+        /** Marks a block that is not marked, and from which a step goes back to the head or on to one that is marked. */
         private boolean staysInLoop(int block, int head) {
+            if (block < 0 || block >= count || isSeen[block]) {
+                return false;
+            }
             int many = blocks.stepCount(block);
             for (int i = 0; i < many; i++) {
                 int to = blocks.stepTo(block, i);
-                if (to == head ? signOf(block, to) == '^' : loop.holds(0, to)) {
+                if (to >= 0 && to < count && (to == head ? isBack(block, to) : isSeen[to])) {
+                    isSeen[block] = true;
                     return true;
                 }
             }
             return false;
         }
 
+        private boolean isBack(int from, int to) {
+            return from >= 0 && from < count && to >= 0 && to < count && orders[to] <= orders[from] && ahead.holds(from, to);
+        }
+
         /** From the last in the order, each put in front, so that the lists rise. */
         private void linkMeetings() {
-            for (int order = Math.min(blocks.count(), MOST_BYTES) - 1; order >= 0; order--) {
+            for (int order = count - 1; order >= 0; order--) {
                 int block = inOrder[order];
                 int near = nearestTo(block);
                 if (meets(block) && isBlock(near)) {
@@ -1345,7 +1373,7 @@ public final class Sourcewright {
         private void walkWithout(int out) {
             without.clear(out);
             int top = 0;
-            if (out != blocks.entryBlock()) {
+            if (out != blocks.entryBlock() && stack.length > 0) {
                 without.add(out, blocks.entryBlock());
                 stack[0] = blocks.entryBlock();
                 top = 1;
@@ -1370,19 +1398,17 @@ public final class Sourcewright {
             return now;
         }
 
-        private boolean isCutBy(int block, int out) {
-            return isBlock(block) && isBlock(out) && !without.holds(out, block);
-        }
-
-        /** How many others each way to the block goes through. */
-        private int cutters(int block) {
-            int sum = 0;
-            for (int out = 0; out < blocks.count(); out++) {
-                if (out != block && isCutBy(block, out)) {
-                    sum++;
+        /** All others that are ahead of the block are ahead of the near one too. */
+        private boolean isLastAhead(int near, int block) {
+            if (near == block || !isBlock(near) || without.holds(near, block)) {
+                return false;
+            }
+            for (int out = 0; out < count; out++) {
+                if (out != block && out != near && !without.holds(out, block) && without.holds(out, near)) {
+                    return false;
                 }
             }
-            return sum;
+            return true;
         }
     }
 
@@ -1408,13 +1434,14 @@ public final class Sourcewright {
         }
 
         void tell() {
-            for (int place = 0; place < ahead.length; place++) {
+            int many = Math.min(code.count(), ahead.length);
+            for (int place = 0; place < many; place++) {
                 ahead[place] = 0;
             }
             boolean isChanged = true;
             for (int round = 0; isChanged && round <= REGISTERS * MOST_BYTES; round++) {
                 isChanged = false;
-                for (int place = ahead.length - 1; place >= 0; place--) {
+                for (int place = many - 1; place >= 0; place--) {
                     int now = used(place) | behind(place) & ~made(place);
                     isChanged = isChanged || now != ahead[place];
                     ahead[place] = now;
@@ -1473,116 +1500,130 @@ public final class Sourcewright {
     }
 
     /** Goes through the blocks of the studied function as they stand one in the other in its source. */
-    private abstract static class Tour {
-        final Code code;
-        final Blocks blocks;
-        final Ways ways;
-        final Life life;
-        boolean isTidied = false;
+    private static final class Tour {
+        /** What is met: a block begins, a step, the end of a block's steps, a meeting, the end of a block, and of all. */
+        private static final int OPEN = 1;
+        private static final int STEP = 2;
+        private static final int SHUT = 3;
+        private static final int PART = 4;
+        private static final int CLOSE = 5;
+        private static final int END = 6;
+
+        private final Code code;
+        private final Blocks blocks;
+        private final Ways ways;
+        private final boolean isNextFirst;
         private final int[] stack = new int[MOST_BYTES];
         private final int[] stage = new int[MOST_BYTES];
         private final int[] meeting = new int[MOST_BYTES];
         private final int[] times = new int[MOST_BYTES];
         private int top = 0;
+        private int opening = -1;
+        private int block = 0;
+        private int index = 0;
+        private int to = -1;
+        private char sign = INLINE;
 
-        Tour(Code code, Blocks blocks, Ways ways, Life life) {
+        Tour(Code code, Blocks blocks, Ways ways, boolean isNextFirst) {
             this.code = code;
             this.blocks = blocks;
             this.ways = ways;
-            this.life = life;
+            this.isNextFirst = isNextFirst;
         }
 
-        /** The block's own instructions, and what stands in front of them. */
-        abstract void open(int block);
+        /** The block that is met, or of which the step is. */
+        int block() {
+            return block;
+        }
 
-        /** Which step is taken as the turn-th. */
-        abstract int chosen(int block, int turn);
+        int index() {
+            return index;
+        }
 
-        /** What stands in front of a step. */
-        abstract void lead(int block, int index);
+        int target() {
+            return to;
+        }
 
-        /** A step to a block that stands elsewhere, or to none, with its sign. */
-        abstract void goFar(int to, char sign);
+        /** INLINE if the block to which the step goes stands there: it is met next. */
+        char mark() {
+            return sign;
+        }
 
-        /** What stands behind the steps. */
-        abstract void shut(int block);
+        void start() {
+            for (int i = 0; i < blocks.count() && i < times.length; i++) {
+                times[i] = 0;
+            }
+            top = 0;
+            opening = blocks.entryBlock();
+        }
 
-        /** What stands in front of a meeting. */
-        abstract void part();
-
-        /** What stands behind all. */
-        abstract void close(int block);
-
-        final boolean isEachOnce() {
-            for (int block = 0; block < blocks.count() && block < times.length; block++) {
-                if (times[block] != 1) {
+        boolean isEachOnce() {
+            for (int i = 0; i < blocks.count() && i < times.length; i++) {
+                if (times[i] != 1) {
                     return false;
                 }
             }
             return true;
         }
 
-        final void walk() {
-            for (int block = 0; block < times.length; block++) {
-                times[block] = 0;
+        int advance() {
+            if (opening >= 0) {
+                return open();
             }
-            top = 0;
-            enter(blocks.entryBlock());
-            for (int turn = 0; turn < MANY && top > 0 && top <= stack.length; turn++) {
-                advance(stack[top - 1]);
+            if (top <= 0 || top > stack.length) {
+                return END;
             }
+            block = stack[top - 1];
+            if (block < 0 || block >= stage.length) {
+                return END;
+            }
+            int turn = stage[block];
+            int steps = blocks.stepCount(block);
+            if (turn < steps) {
+                stage[block]++;
+                return take(turn);
+            }
+            if (turn == steps) {
+                stage[block]++;
+                return SHUT;
+            }
+            if (meeting[block] >= 0) {
+                opening = meeting[block];
+                meeting[block] = ways.meetingAfter(opening);
+                return PART;
+            }
+            top--;
+            return CLOSE;
         }
 
-        private void enter(int block) {
-            if (block < 0 || block >= times.length || top < 0 || top >= stack.length) {
-                return;
+        private int open() {
+            block = opening;
+            opening = -1;
+            if (block < 0 || block >= stage.length || top < 0 || top >= stack.length) {
+                return END;
             }
             times[block]++;
             stage[block] = 0;
             meeting[block] = ways.firstMeeting(block);
             stack[top] = block;
             top++;
-            open(block);
+            return OPEN;
         }
 
-        private void advance(int block) {
-            if (block < 0 || block >= stage.length) {
-                top = 0;
-                return;
-            }
-            int turn = stage[block];
-            int steps = blocks.stepCount(block);
-            if (turn < steps) {
-                stage[block]++;
-                take(block, chosen(block, turn));
-            } else if (turn == steps) {
-                stage[block]++;
-                shut(block);
-            } else if (meeting[block] >= 0) {
-                int entered = meeting[block];
-                meeting[block] = ways.meetingAfter(entered);
-                part();
-                enter(entered);
-            } else {
-                close(block);
-                top--;
-            }
-        }
-
-        private void take(int block, int index) {
-            lead(block, index);
-            int to = blocks.stepTo(block, index);
-            char sign = ways.signOf(block, to);
+        private int take(int turn) {
+            boolean isTurned = isNextFirst && code.op(blocks.lastPlace(block)) == CHOICE;
+            index = isTurned ? 1 - turn : turn;
+            to = blocks.stepTo(block, index);
+            sign = ways.signOf(block, to);
             if (sign == INLINE) {
-                enter(to);
-            } else {
-                goFar(to, sign);
+                opening = to;
             }
+            return STEP;
         }
     }
 
     /** Writes the source of the studied function. */
-    private static final class Scribe extends Tour {
+    private static final class Scribe {
         private static final String REGISTER_SIGNS = "abcd";
         private static final String CHOICE_SIGNS = "=#<]";
         private static final String ARITHMETIC_SIGNS = "=+-*/~";
@@ -1591,11 +1632,21 @@ public final class Sourcewright {
         private static final int BLOCK_SIGNS = 16;
         private static final int MOST_SIGNS = 65536;
 
+        private final Code code;
+        private final Blocks blocks;
+        private final Ways ways;
+        private final Life life;
+        private final Tour tour;
         private char[] text = new char[256];
         private int count = 0;
+        private boolean isTidied = false;
 
         Scribe(Code code, Blocks blocks, Ways ways, Life life) {
-            super(code, blocks, ways, life);
+            this.code = code;
+            this.blocks = blocks;
+            this.ways = ways;
+            this.life = life;
+            tour = new Tour(code, blocks, ways, false);
         }
 
         int count() {
@@ -1610,15 +1661,40 @@ public final class Sourcewright {
             return place >= 0 && place < count && place < text.length ? text[place] : ' ';
         }
 
+        /** Whether each block stood just once in what was written last. */
+        boolean isEachOnce() {
+            return tour.isEachOnce();
+        }
+
         void write(boolean isTidied) {
             this.isTidied = isTidied;
             makeRoom();
             count = 0;
-            walk();
+            tour.start();
+            int met = tour.advance();
+            for (int turn = 0; turn < MANY && met != Tour.END; turn++) {
+                switch (met) {
+                    case Tour.OPEN:
+                        writeBlock(tour.block());
+                        break;
+                    case Tour.STEP:
+                        writeStep();
+                        break;
+                    case Tour.SHUT:
+                        writeShut(tour.block());
+                        break;
+                    case Tour.PART:
+                        put('}');
+                        break;
+                    default:
+                        writeClose(tour.block());
+                        break;
+                }
+                met = tour.advance();
+            }
         }
 
-        @Override
-        void open(int block) {
+        private void writeBlock(int block) {
             if (ways.heads(block)) {
                 put('L');
                 put('{');
@@ -1638,42 +1714,28 @@ public final class Sourcewright {
             }
         }
 
-        @Override
-        int chosen(int block, int turn) {
-            return turn;
-        }
-
-        @Override
-        void lead(int block, int index) {
-            if (index > 0) {
+        private void writeStep() {
+            if (tour.index() > 0) {
                 put(':');
             }
-        }
-
-        @Override
-        void goFar(int to, char sign) {
-            put(sign);
-            if (sign != '$') {
-                putNumber(blocks.firstPlace(to));
+            if (tour.mark() == INLINE) {
+                return;
+            }
+            put(tour.mark());
+            if (tour.mark() != '$') {
+                putNumber(blocks.firstPlace(tour.target()));
                 put(';');
             }
         }
 
-        @Override
-        void shut(int block) {
+        private void writeShut(int block) {
             int op = code.op(blocks.lastPlace(block));
             if (op == CHOICE || op == TABLE) {
                 put(')');
             }
         }
 
-        @Override
-        void part() {
-            put('}');
-        }
-
-        @Override
-        void close(int block) {
+        private void writeClose(int block) {
             if (ways.heads(block)) {
                 put('}');
             }
@@ -1688,14 +1750,14 @@ public final class Sourcewright {
                 most += STEP_SIGNS * blocks.stepCount(block);
             }
             if (most > text.length && most <= MOST_SIGNS) {
-                text = new char[most];
+                text = new char[Math.max(most, Math.min(2 * text.length, MOST_SIGNS))];
             }
         }
 
         private void writeInstruction(int place) {
             int op = code.op(place);
-            char major = registerSign(code.major(place));
-            char minor = registerSign(code.minor(place));
+            char major = signIn(REGISTER_SIGNS, code.major(place));
+            char minor = signIn(REGISTER_SIGNS, code.minor(place));
             switch (op) {
                 case HALT:
                     put('.');
@@ -1712,7 +1774,7 @@ public final class Sourcewright {
                 case MULTIPLY:
                 case DIVIDE:
                 case COMPARE:
-                    putThree(major, ARITHMETIC_SIGNS.charAt(op - COPY), minor);
+                    putThree(major, signIn(ARITHMETIC_SIGNS, op - COPY), minor);
                     break;
                 case OUT:
                     putTwo('>', minor);
@@ -1746,8 +1808,7 @@ public final class Sourcewright {
                 put(')');
                 put(';');
             } else if (op == CHOICE) {
-                int which = (code.at(place) & 15) - 1;
-                put(which >= 0 && which < CHOICE_SIGNS.length() ? CHOICE_SIGNS.charAt(which) : '=');
+                put(signIn(CHOICE_SIGNS, (code.at(place) & 15) - 1));
                 put('(');
             } else if (op == TABLE) {
                 put('[');
@@ -1756,8 +1817,8 @@ public final class Sourcewright {
             }
         }
 
-        private static char registerSign(int register) {
-            return register >= 0 && register < REGISTER_SIGNS.length() ? REGISTER_SIGNS.charAt(register) : ' ';
+        private static char signIn(String signs, int index) {
+            return index >= 0 && index < signs.length() ? signs.charAt(index) : ' ';
         }
 
         private char cellSign(int place) {
@@ -1801,7 +1862,11 @@ public final class Sourcewright {
     }
 
     /** Compiles the sources of the functions, one behind the other. */
-    private static final class Builder extends Tour {
+    private static final class Builder {
+        private final Code code;
+        private final Blocks blocks;
+        private final Life life;
+        private final Tour tour;
         private final Code result = new Code();
         private final int[] blockPlace = new int[MOST_BYTES];
         private final int[] slot = new int[MOST_BYTES];
@@ -1813,9 +1878,13 @@ public final class Sourcewright {
         private int farCount = 0;
         private int callCount = 0;
         private int length = 0;
+        private boolean isTidied = false;
 
         Builder(Code code, Blocks blocks, Ways ways, Life life) {
-            super(code, blocks, ways, life);
+            this.code = code;
+            this.blocks = blocks;
+            this.life = life;
+            tour = new Tour(code, blocks, ways, true);
         }
 
         /** Told in full even if it is more than there is room for. */
@@ -1845,7 +1914,16 @@ public final class Sourcewright {
                 functionPlace[entry] = length;
             }
             farCount = 0;
-            walk();
+            tour.start();
+            int met = tour.advance();
+            for (int turn = 0; turn < MANY && met != Tour.END; turn++) {
+                if (met == Tour.OPEN) {
+                    writeBlock(tour.block());
+                } else if (met == Tour.STEP) {
+                    writeStep(tour.block());
+                }
+                met = tour.advance();
+            }
             for (int i = 0; i < farCount && i < farAt.length; i++) {
                 int to = farTo[i];
                 result.put(farAt[i], to >= 0 && to < blockPlace.length ? blockPlace[to] : NOWHERE);
@@ -1861,8 +1939,7 @@ public final class Sourcewright {
             result.decode();
         }
 
-        @Override
-        void open(int block) {
+        private void writeBlock(int block) {
             if (block >= 0 && block < blockPlace.length) {
                 blockPlace[block] = length;
             }
@@ -1876,44 +1953,23 @@ public final class Sourcewright {
             }
         }
 
-        /** Behind a jump with a flag stands the next one, and where it goes to comes later. */
-        @Override
-        int chosen(int block, int turn) {
-            return code.op(blocks.lastPlace(block)) == CHOICE ? 1 - turn : turn;
-        }
-
-        @Override
-        void lead(int block, int index) {
+        /** A step of a table, and that to where a jump with a flag goes, is put into the slot that waits for it. */
+        private void writeStep(int block) {
             int op = code.op(blocks.lastPlace(block));
-            if (block < 0 || block >= slot.length) {
+            boolean isSlotted = op == TABLE || op == CHOICE && tour.index() == 0;
+            if (isSlotted && block >= 0 && block < slot.length) {
+                result.put(slot[block] + tour.index(), length);
+            }
+            if (tour.mark() == INLINE) {
                 return;
             }
-            if (op == TABLE || op == CHOICE && index == 0) {
-                result.put(slot[block] + index, length);
-            }
-        }
-
-        @Override
-        void goFar(int to, char sign) {
             put(JUMP_BYTE);
-            if (sign != '$' && farCount >= 0 && farCount < farAt.length) {
+            if (tour.mark() != '$' && farCount >= 0 && farCount < farAt.length) {
                 farAt[farCount] = length;
-                farTo[farCount] = to;
+                farTo[farCount] = tour.target();
                 farCount++;
             }
             put(NOWHERE);
-        }
-
-        @Override
-        void shut(int block) {
-        }
-
-        @Override
-        void part() {
-        }
-
-        @Override
-        void close(int block) {
         }
 
         private void writeInstruction(int block, int place) {
