@@ -74,14 +74,16 @@ public final class RunTest {
         DUE.same("divided wraps", ran(fed(bytes(160, 161, 97, 144, 0), Integer.MIN_VALUE, -1), 99), "h 5 -2147483648");
         DUE.same("of d 3 and s 2", ran(fed(bytes(163, 162, 78, 147, 146, 0), 1, 10), 99), "h 6 -9 10");
         DUE.same("with itself", ran(fed(bytes(160, 48, 144, 0), 6), 99), "h 4 12");
-        DUE.same("cells", ran(fed(bytes(160, 192, 7, 177, 7, 178, 6, 145, 146, 0), 8), 99), "h 7 8 0");
+        for (int cell = 0; cell < 8; cell++) {
+            int other = (cell + 1) % 8;
+            DUE.same("cell " + cell, ran(fed(bytes(160, 192, cell, 177, cell, 178, other, 145, 146, 0), 8), 99), "h 7 8 0");
+        }
         DUE.same("a call and a return", ran(Make.of(133, 5, 144, 0, 208, 16, 3, 134), 99), "h 5 3");
         DUE.same("a jump", ran(Make.of(128, 3, 208, 144, 0), 99), "h 3 0");
     }
 
     private static void flags() {
         DUE.about("promise 37, jumps with a flag ");
-        String[] due = {"011", "100", "001", "110"};
         for (int i = 0; i < 4; i++) {
             for (int sign = -1; sign <= 1; sign++) {
                 // 0: <a; 1: a~b; 2: jump to 6, 4: >a; 5: . 6: c=1; 8: >c; 9: .
@@ -91,7 +93,6 @@ public final class RunTest {
             }
             DUE.same("the flag at first", ran(Make.of(129 + i, 3, 208, 0), 99).charAt(0), i == 0 || i == 3 ? 'h' : 'i');
         }
-        DUE.check(due.length == 4, "four kinds");
         DUE.same("least against most", ran(fed(bytes(160, 161, 113, 131, 6, 208, 0), Integer.MIN_VALUE, Integer.MAX_VALUE), 99), "h 5");
     }
 
