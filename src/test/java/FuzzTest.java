@@ -51,10 +51,10 @@ public final class FuzzTest {
             Object[] arguments = arguments(one);
             String call = one.getName() + java.util.Arrays.toString(arguments);
             boolean isWatched = i % 16 == 0;
-            String before = isWatched ? state(x) : "";
+            String before = isWatched ? State.told(x) : "";
             Object answer = call(x, one, arguments, call);
             if (answer instanceof Class && isWatched) {
-                due.same(call + " threw", state(x), before);
+                due.same(call + " threw", State.told(x), before);
             }
             due.same(call + " of the twin", "" + call(twin, one, arguments, call), "" + answer);
         }
@@ -87,33 +87,6 @@ public final class FuzzTest {
             }
             due.check(isNamed, call + " threw " + cause);
             return cause.getClass();
-        }
-    }
-
-    private static String state(Sourcewright x) {
-        StringBuilder text = new StringBuilder();
-        text.append(x.checksum()).append(' ').append(x.functions()).append(' ').append(x.outputs()).append(' ').append(x.steps());
-        for (int place = 0; place < 120; place++) {
-            try {
-                text.append(' ').append(x.byteAt(place)).append(x.kind(place));
-            } catch (IndexOutOfBoundsException e) {
-                break;
-            }
-        }
-        for (int i = 0; i < x.outputs(); i++) {
-            text.append(' ').append(x.output(i));
-        }
-        for (int function = 0; function < x.functions(); function++) {
-            text.append(' ').append(x.entryOf(function)).append(x.source(function)).append(matched(x, function));
-        }
-        return text.toString();
-    }
-
-    private static int matched(Sourcewright x, int function) {
-        try {
-            return x.match(function);
-        } catch (java.util.NoSuchElementException e) {
-            return -1;
         }
     }
 }

@@ -19,26 +19,12 @@ public final class RunTest {
         DUE.end();
     }
 
-    /** Runs both ways, and tells the end, the steps and what came out; the ways must not differ. */
     private static String ran(Sourcewright x, int limit) {
-        char back = x.run(true, limit);
-        String backTold = Make.outputs(x);
-        char end = x.run(false, limit);
-        String told = Make.outputs(x);
-        if (end != 's' && back != 's') {
-            DUE.same("the end of the compiled", back, end);
-            DUE.same("the numbers of the compiled", backTold, told);
-        }
-        DUE.same("agree", x.agree(limit), true);
-        return end + " " + x.steps() + (told.isEmpty() ? "" : " " + told);
+        return Runs.told(DUE, x, limit);
     }
 
     private static Sourcewright fed(int[] bytes, int... inputs) {
-        Sourcewright made = Make.of(bytes);
-        for (int value : inputs) {
-            made.input(value);
-        }
-        return made;
+        return Runs.fed(bytes, inputs);
     }
 
     private static int[] bytes(int... values) {
