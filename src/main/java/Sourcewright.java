@@ -871,7 +871,7 @@ public final class Sourcewright {
             }
             count = 0;
             for (int place = 0; place < length; place++) {
-                if (isEntry[place]) {
+                if (isEntry[place] && count < entries.length) {
                     entries[count] = place;
                     count++;
                 }
@@ -1025,7 +1025,7 @@ public final class Sourcewright {
             }
             count = 0;
             for (int place = 0; place < length; place++) {
-                if (isFirst[place]) {
+                if (isFirst[place] && count < firsts.length) {
                     blockAt[place] = count;
                     firsts[count] = place;
                     extend(count);

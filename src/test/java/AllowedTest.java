@@ -18,6 +18,7 @@ public final class AllowedTest {
         runs();
         outputs();
         keeping();
+        keepingMost();
         sums();
         tidy();
         lastCall();
@@ -284,6 +285,33 @@ public final class AllowedTest {
         for (int function = 0; function < 5; function++) {
             DUE.same("match of a long one", all.match(function) <= function, true);
         }
+    }
+
+    private static void keepingMost() {
+        DUE.about("promises 42 and 43, the longest sources of many functions: ");
+        Sourcewright x = Make.of(Programs.calledTables());
+        java.util.List<String> kept = new java.util.ArrayList<>();
+        int signs = 0;
+        for (int function = 0; function < x.functions(); function++) {
+            kept.add(Oracle.withoutPlaces(Make.source(x, function)));
+            signs += x.source(function);
+        }
+        DUE.check(kept.size() >= 20 && signs > 150000, kept.size() + " functions of " + signs + " signs in all");
+        DUE.same("keep", x.keep(), kept.size());
+        for (int function = 0; function < kept.size(); function++) {
+            DUE.same("match " + function, x.match(function), kept.indexOf(kept.get(function)));
+        }
+        x.set(2, 79);
+        for (int function = 0; function < x.functions(); function++) {
+            int due = kept.indexOf(Oracle.withoutPlaces(Make.source(x, function)));
+            int asked = function;
+            if (due >= 0) {
+                DUE.same("match after a change " + function, x.match(function), due);
+            } else {
+                DUE.fails("match after a change " + function, NoSuchElementException.class, () -> x.match(asked));
+            }
+        }
+        DUE.same("isSound", x.isSound(), true);
     }
 
     private static void sums() {

@@ -27,6 +27,20 @@ final class Programs {
         return row;
     }
 
+    /** 26 tables that lead to one another and to 21 calls, each of which calls one of them: many functions, each of nearly all. */
+    static int[] calledTables() {
+        int[] row = new int[120];
+        for (int i = 0; i < 26; i++) {
+            row[3 * i] = 136 + i % 4;
+            row[3 * i + 2] = i < 21 ? 78 + 2 * i : 60 + 3 * (i - 21);
+        }
+        for (int i = 0; i < 21; i++) {
+            row[78 + 2 * i] = 133;
+            row[79 + 2 * i] = 3 * i;
+        }
+        return row;
+    }
+
     int[] make() {
         if (chance(200)) {
             return tables();
